@@ -9,6 +9,7 @@ public final class ReadingsTest {
         pipeOf();
         layers();
         oldest();
+        fullObject();
         readingChangesNothing();
         Checks.finish("ReadingsTest");
     }
@@ -247,6 +248,32 @@ public final class ReadingsTest {
         all.days(-30, 0, 20);
         Checks.is("P13: all cells: the last", 329, all.oldest(119));
         Checks.refuses("P13: all cells: one more", Checks.INDEX, () -> all.oldest(120));
+    }
+
+    /** As many sites, tubes and pipes as there can be, in as much frost. */
+    private static void fullObject() {
+        FrostTubes x = new FrostTubes();
+        x.set(0, 0);
+        for (int s = 0; s < 4; s++) {
+            x.site();
+            x.tube(s, 30);
+            x.tube(s, 1);
+            x.pipe(s, 29);
+            x.pipe(s, 0);
+        }
+        x.days(-30, 0, 20);
+        int[] due = {4, 8, 8, 20, 120, 4, 0, 0, 80, 0, 2, 10};
+        for (int what = 0; what < due.length; what++) {
+            Checks.is("P6: full, about " + what, due[what], x.about(what));
+        }
+        Checks.is("P27: full", 0, x.deepest());
+        Checks.is("P10: the last tube", 1, x.tubeOf(7, 2));
+        Checks.is("P11: the last pipe", 10, x.pipeOf(7, 2));
+        Checks.is("P26: the last pipe", 5, x.heaveIn(7, 30, 1));
+        Checks.is("P20: full", 600, x.winter());
+        x.days(30, 0, 18);
+        Checks.is("P19: 525 of 540 thaw all", 0, x.about(4));
+        Checks.is("P6: each pipe sunk", 40, x.about(8));
     }
 
     private static void readingChangesNothing() {

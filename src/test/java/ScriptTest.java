@@ -65,6 +65,7 @@ public final class ScriptTest {
         fails(203000);
         runs("thaws 0", FrostTubes.NONE, 2, 203001_600000L);
         runs("thaws 0", 1, 2, 203001_600001L);
+        runs("without new snow, so that 5 of cold freeze cell 1", FrostTubes.NONE, 3, 200009_105001_600011L);
     }
 
     private static void fenceAndShovel() {

@@ -2,6 +2,7 @@
 public final class SlotsTest {
     public static void main(String[] args) {
         saveAndRestore();
+        tubesAndPipesComeBack();
         refused();
         Checks.finish("SlotsTest");
     }
@@ -37,6 +38,22 @@ public final class SlotsTest {
         x.append('D');
         x.restore(1);
         Checks.is("P31: the text is kept", 1, x.clearText());
+    }
+
+    private static void tubesAndPipesComeBack() {
+        FrostTubes x = Looks.threeLayers();
+        x.site();
+        x.tube(0, 3);
+        x.pipe(0, 7);
+        String early = Looks.state(x);
+        x.save(1);
+        x.undo();
+        x.undo();
+        x.tube(1, 5);
+        x.pipe(1, 9);
+        x.days(-30, 0, 9);
+        x.restore(1);
+        Checks.same("P31: its tubes and pipes", early, Looks.state(x));
     }
 
     private static FrostTubes used() {

@@ -73,6 +73,10 @@ public final class TextTest {
         errorAt("Dt04", 3);
         errorAt("Dt031", 4);
         errorAt("Dt040", 3);
+        errorAt("Dp4", 2);
+        errorAt("Df4", 2);
+        errorAt("Dp9", 2);
+        errorAt("Dx9", 2);
         errorAt("Dt4", 2);
         errorAt("Dp030", 3);
         errorAt("Dp02", 4);
