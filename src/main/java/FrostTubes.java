@@ -26,6 +26,7 @@ public final class FrostTubes {
 
     private static final int[] LEAST_SETTING = {0, 1, 0};
     private static final int[] MOST_SETTING = {30, 9, 50};
+    private static final int MOST_VALUE = 50;
     private static final int THAW_FROM_BELOW = 0;
     private static final int MELT_RATE = 1;
     private static final int HEAVE_STEP = 2;
@@ -639,6 +640,7 @@ public final class FrostTubes {
     /** A whole state. Rows and sites beyond the counts stay as they are made, since every copy takes all of them. */
     private static final class Ground {
         static final int KEY_DAY = 1000;
+        static final int NO_KEY = KEY_DAY * (LAST_DAY + 1);
 
         int siteCount;
         int tubeCount;
@@ -724,7 +726,7 @@ public final class FrostTubes {
 
         /** A key orders the frozen cells by day, then site, then cell; no cell comes before the key NONE. */
         int nextAgeKey(int key) {
-            int next = Integer.MAX_VALUE;
+            int next = NO_KEY;
             for (int s = 0; s < siteCount; s++) {
                 for (int c = 0; c < CELLS; c++) {
                     int here = KEY_DAY * sites[s].frozenSince[c] + 100 * s + c;
@@ -1097,7 +1099,7 @@ public final class FrostTubes {
                     break;
                 case CHANGE_SETTING:
                     first = readDigit(0, SETTINGS - 1);
-                    second = readNumber(0, 50);
+                    second = readNumber(0, MOST_VALUE);
                     break;
                 default:
                     error = at - 1;

@@ -90,6 +90,11 @@ public final class ForesightTest {
         FrostTubes frozen = Looks.threeLayers();
         Checks.is("P25: snow keeps the warmth off", 0, frozen.bestFence(0, 10, 5, 3));
         Checks.is("P25: the ends of the ranges", 0, frozen.bestFence(0, 30, 30, 60));
+        FrostTubes deep = ground(1);
+        deep.days(-30, 0, 17);
+        deep.days(-18, 0, 1);
+        Checks.is("P25: 29 are frozen, 6 stored; 300 / 11 and 6 freeze the last, 300 / 12 don't", 1,
+                deep.bestFence(0, -30, 1, 1));
         int[][] bad = {{-31, 0, 1}, {31, 0, 1}, {0, -1, 1}, {0, 31, 1}, {0, 0, 0}, {0, 0, 61}};
         for (int[] row : bad) {
             Checks.refuses("P25: bad days", Checks.ARGUMENT, () -> x.bestFence(0, row[0], row[1], row[2]));
