@@ -4,6 +4,7 @@ import java.util.Random;
 public final class ModelTest {
     private static final int RUNS = 600;
     private static final int CALLS = 500;
+    private static final int TEXTS = 3000;
     private static final int KINDS = 30;
     private static final String LETTERS = "sstpfxddddew";
 
@@ -18,6 +19,9 @@ public final class ModelTest {
     public static void main(String[] args) {
         for (int run = 0; run < RUNS; run++) {
             new ModelTest(run).compare(run);
+        }
+        for (int text = 0; text < TEXTS; text++) {
+            new ModelTest(text).compareText(text);
         }
         Checks.finish("ModelTest");
     }
@@ -34,6 +38,47 @@ public final class ModelTest {
             }
         }
         Checks.same("run " + run + ": the same state", stateOf(null), stateOf(x));
+    }
+
+    /** A long text, every third one with a wrong sign or a short end. */
+    private void compareText(int number) {
+        StringBuilder text = new StringBuilder("D");
+        while (text.length() < 112) {
+            text.append(command());
+        }
+        if (number % 3 == 0) {
+            text.setCharAt(random.nextInt(text.length()), (char) anySign());
+        }
+        if (number % 6 == 3) {
+            text.setLength(1 + random.nextInt(text.length()));
+        }
+        for (int i = 0; i < text.length(); i++) {
+            x.append(text.charAt(i));
+            model.append(text.charAt(i));
+        }
+        Checks.is("error in " + text, model.errorPosition(), x.errorPosition());
+        Checks.same("load of " + text, outcome(() -> model.load()), outcome(() -> x.load()));
+        Checks.same("state behind " + text, stateOf(null), stateOf(x));
+    }
+
+    private String command() {
+        int s = random.nextInt(random.nextInt(4) + 1);
+        switch (LETTERS.charAt(random.nextInt(LETTERS.length()))) {
+            case 's': return "s";
+            case 't': return "t" + s + two(1, 30);
+            case 'p': return "p" + s + two(0, random.nextBoolean() ? 29 : 9);
+            case 'f': return "f" + s + two(0, 20);
+            case 'x': return "x" + s;
+            case 'd': return "d" + (random.nextInt(3) > 0 ? "-" + two(0, 30) : "+" + two(0, 9))
+                    + (random.nextInt(3) > 0 ? "00" : two(0, 30)) + two(1, random.nextInt(9) == 0 ? 60 : 3);
+            case 'e': return "e" + random.nextInt(3) + two(0, random.nextBoolean() ? 50 : 9);
+            default: return "w";
+        }
+    }
+
+    private String two(int least, int most) {
+        int v = least + random.nextInt(most - least + 1);
+        return "" + v / 10 + v % 10;
     }
 
     private String stateOf(FrostTubes y) {
