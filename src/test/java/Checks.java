@@ -18,23 +18,35 @@ final class Checks {
 
     private static int made = 0;
     private static int wrong = 0;
+    private static int sentences = 0;
+    private static String sentence = "";
 
     private Checks() {
+    }
+
+    /** The test of one sentence of the document; it is told with each of its checks that does not hold. */
+    static void sentence(String section, String told, Runnable test) {
+        int before = made;
+        sentence = section + " \"" + told + "\" ";
+        sentences++;
+        test.run();
+        if (made == before) {
+            tell("nothing is checked");
+        }
+        sentence = "";
     }
 
     static void is(String what, long want, long got) {
         made++;
         if (want != got) {
-            wrong++;
-            System.out.println(what + ": answered " + got + ", due is " + want);
+            tell(what + ": answered " + got + ", due is " + want);
         }
     }
 
     static void same(String what, String want, String got) {
         made++;
         if (!want.equals(got)) {
-            wrong++;
-            System.out.println(what + ":\n  saw " + got + "\n  due " + want);
+            tell(what + ":\n  saw " + got + "\n  due " + want);
         }
     }
 
@@ -50,25 +62,28 @@ final class Checks {
             }
             got = e.toString();
         }
-        wrong++;
-        System.out.println(what + ": " + got + ", due is " + want.getSimpleName());
+        tell(what + ": " + got + ", due is " + want.getSimpleName());
     }
 
     /** The call throws, and the object is then as its twin, with which nothing has been tried. */
     static void refusesAndChangesNothing(String what, Class<?> want, Recipe recipe, Use use) {
-        FrostTubes tried = recipe.make();
-        refuses(what, want, () -> use.answer(tried));
-        same(what + " changes nothing", Looks.everything(recipe.make()), Looks.everything(tried));
+        refuses(what, want, () -> use.answer(recipe.make()));
+        changesNothing(what, recipe, use);
     }
 
+    /** The call may throw or not. */
     static void changesNothing(String what, Recipe recipe, Use use) {
-        FrostTubes tried = recipe.make();
-        use.answer(tried);
-        same(what + " changes nothing", Looks.everything(recipe.make()), Looks.everything(tried));
+        same(what + " changes nothing", Looks.everything(recipe, x -> 0), Looks.everything(recipe, use));
+    }
+
+    private static void tell(String what) {
+        wrong++;
+        System.out.println(sentence + what);
     }
 
     static void finish(String test) {
-        System.out.println(test + ": " + made + " checks, " + wrong + " wrong");
+        String told = sentences == 0 ? "" : " of " + sentences + " sentences";
+        System.out.println(test + ": " + made + " checks" + told + ", " + wrong + " wrong");
         if (wrong > 0 || made == 0) {
             System.exit(1);
         }

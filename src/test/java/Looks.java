@@ -1,9 +1,12 @@
 /** Tells an object's state as a text, so that two objects can be compared. */
 final class Looks {
+    private static final int REMEMBERED = 14;
+    private static final int SLOTS = 2;
+
     private Looks() {
     }
 
-    /** All that the reading calls tell. */
+    /** All that the reading calls tell; of a full object it takes 256 of the 512 calls for which one is made. */
     static String state(FrostTubes x) {
         StringBuilder told = new StringBuilder("about");
         for (int what = 0; what < 12; what++) {
@@ -34,26 +37,59 @@ final class Looks {
         return told.toString();
     }
 
-    /** Uses the object up: its state, what undo brings back, its save slots and its text. */
-    static String everything(FrostTubes x) {
-        StringBuilder told = new StringBuilder(state(x));
-        told.append("\n  error ").append(x.errorPosition());
-        boolean more = true;
-        for (int i = 0; i < 20 && more; i++) {
-            try {
-                told.append("\n  undo ").append(x.undo()).append(": ").append(state(x));
-            } catch (IllegalStateException e) {
-                more = false;
-            }
+    /**
+     * What an object is behind a call: its state, each state that undo brings back, its save slots and its text.
+     * Each look takes an object of its own, so that none is used for more than 512 calls.
+     */
+    static String everything(Checks.Recipe recipe, Checks.Use use) {
+        StringBuilder told = new StringBuilder(state(behind(recipe, use)));
+        for (int times = 1; times <= REMEMBERED + 1; times++) {
+            told.append("\n  ").append(behindUndo(behind(recipe, use), times));
         }
-        for (int slot = 0; slot < 2; slot++) {
-            try {
-                told.append("\n  slot ").append(x.restore(slot)).append(": ").append(state(x));
-            } catch (IllegalStateException e) {
-                told.append("\n  slot empty");
-            }
+        for (int slot = 0; slot < SLOTS; slot++) {
+            told.append("\n  slot ").append(behindRestore(behind(recipe, use), slot));
         }
-        return told.append("\n  text ").append(x.clearText()).toString();
+        told.append("\n  error position ").append(behind(recipe, use).errorPosition());
+        told.append("\n  text ").append(behindLoad(behind(recipe, use)));
+        return told.append("\n  length ").append(behind(recipe, use).clearText()).toString();
+    }
+
+    private static FrostTubes behind(Checks.Recipe recipe, Checks.Use use) {
+        FrostTubes x = recipe.make();
+        try {
+            use.answer(x);
+        } catch (RuntimeException e) {
+            return x;
+        }
+        return x;
+    }
+
+    private static String behindUndo(FrostTubes x, int times) {
+        int left = 0;
+        try {
+            for (int i = 0; i < times; i++) {
+                left = x.undo();
+            }
+        } catch (IllegalStateException e) {
+            return "no more undo";
+        }
+        return "undo " + left + ": " + state(x);
+    }
+
+    private static String behindRestore(FrostTubes x, int slot) {
+        try {
+            return x.restore(slot) + ": " + state(x);
+        } catch (IllegalStateException e) {
+            return "empty";
+        }
+    }
+
+    private static String behindLoad(FrostTubes x) {
+        try {
+            return x.load() + ": " + state(x);
+        } catch (IllegalStateException e) {
+            return "not a winter";
+        }
     }
 
     static FrostTubes type(FrostTubes x, String text) {

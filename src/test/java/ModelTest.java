@@ -2,8 +2,8 @@ import java.util.Random;
 
 /** Random runs of calls, at the class and at the plain model: every promise, with good and bad arguments. */
 public final class ModelTest {
-    private static final int RUNS = 600;
-    private static final int CALLS = 500;
+    private static final int RUNS = 1200;
+    private static final int CALLS = 250;
     private static final int TEXTS = 3000;
     private static final int KINDS = 30;
     private static final String LETTERS = "sstpfxddddew";
@@ -81,23 +81,35 @@ public final class ModelTest {
         return "" + v / 10 + v % 10;
     }
 
+    /** All that the reading calls tell of what there is in the model. */
     private String stateOf(FrostTubes y) {
         StringBuilder told = new StringBuilder();
-        for (int s = 0; s < 4; s++) {
+        for (int what = 0; what < 12; what++) {
+            tell(told, y, 4, what, 0);
+        }
+        for (int s = 0; s < model.world.sites.size(); s++) {
+            for (int what = 0; what < 9; what++) {
+                tell(told, y, 5, s, what);
+            }
             for (int c = 0; c < 30; c++) {
-                int[] call = {6, s, c, 0, 0};
-                told.append(outcome(() -> ask(y, call))).append(' ');
+                tell(told, y, 6, s, c);
             }
         }
-        for (int kind : new int[] {4, 5, 8, 9}) {
-            for (int a = 0; a < (kind == 4 ? 1 : 8); a++) {
-                for (int b = 0; b < 12; b++) {
-                    int[] call = kind == 4 ? new int[] {4, b, 0, 0, 0} : new int[] {kind, a, b, 0, 0};
-                    told.append(outcome(() -> ask(y, call))).append(' ');
-                }
+        for (int t = 0; t < model.world.tubes.size(); t++) {
+            for (int what = 0; what < 6; what++) {
+                tell(told, y, 8, t, what);
+            }
+        }
+        for (int p = 0; p < model.world.pipes.size(); p++) {
+            for (int what = 0; what < 5; what++) {
+                tell(told, y, 9, p, what);
             }
         }
         return told.toString();
+    }
+
+    private void tell(StringBuilder told, FrostTubes y, int kind, int a, int b) {
+        told.append(outcome(() -> ask(y, call(kind, a, b, 0, 0)))).append(' ');
     }
 
     private static String outcome(Checks.Call call) {

@@ -151,6 +151,18 @@ final class PlainModel {
     private final List<World> remembered = new ArrayList<>();
     private final World[] slots = new World[2];
 
+    /** As Looks.threeLayers(). */
+    static PlainModel threeLayers() {
+        PlainModel model = new PlainModel();
+        model.set(0, 0);
+        model.site();
+        int[] weather = {-30, 18, -15, 7, -4};
+        for (int t : weather) {
+            model.days(t, 0, 1);
+        }
+        return model;
+    }
+
     private static void index(boolean fine) {
         if (!fine) {
             throw new IndexOutOfBoundsException();

@@ -169,14 +169,17 @@ public final class TextTest {
     }
 
     private static void loadForgets() {
-        FrostTubes x = Looks.threeLayers();
-        x.save(0);
-        x.save(1);
-        x.tube(0, 3);
-        x.winter();
-        Looks.type(x, "Dsd-300001");
-        Checks.is("P5: nothing left out", 0, x.load());
-        Checks.same("P5: as in a new object", Looks.everything(Looks.loaded("Dsd-300001")), Looks.everything(x));
+        Checks.Recipe used = () -> {
+            FrostTubes x = Looks.threeLayers();
+            x.save(0);
+            x.save(1);
+            x.tube(0, 3);
+            x.winter();
+            return Looks.type(x, "Dsd-300001");
+        };
+        Checks.is("P5: nothing left out", 0, used.make().load());
+        Checks.same("P5: as in a new object", Looks.everything(() -> Looks.loaded("Dsd-300001"), x -> 0),
+                Looks.everything(used, x -> x.load()));
         FrostTubes y = Looks.loaded("Dsd-300001");
         Checks.refuses("P5: no action is remembered", Checks.STATE, () -> y.undo());
         Checks.refuses("P5: slot 0 is empty", Checks.STATE, () -> y.restore(0));
