@@ -29,7 +29,11 @@ final class Checks {
         int before = made;
         sentence = section + " \"" + told + "\" ";
         sentences++;
-        test.run();
+        try {
+            test.run();
+        } catch (RuntimeException e) {
+            tell("its test threw " + e);
+        }
         if (made == before) {
             tell("nothing is checked");
         }

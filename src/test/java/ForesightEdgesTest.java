@@ -71,6 +71,9 @@ public final class ForesightEdgesTest {
         Checks.is("60 days", 10, x.heaveIn(0, -1, 60));
         Checks.is("9 days freeze cell 5", 10, x.heaveIn(0, -1, 9));
         Checks.is("300 / 33 are 9 and freeze cell 5, 300 / 34 don't", 4, x.bestFence(0, -30, 20, 1));
+        x.set(0, 10);
+        Checks.is("from below on the days 10000 and 10010: 4 and 3; 12 of warmth: 0, 1 and 2", 12, x.goneIn(0, 1));
+        x.set(0, 0);
         Checks.is("the script's days end there", 0, x.runScript(1, 130001));
         Checks.is("no day is left for a turn, either", 10051, x.simulate(Seeds.of(7, 30), 1));
         FrostTubes before = Grounds.onDay(9998);
@@ -253,6 +256,8 @@ public final class ForesightEdgesTest {
         Checks.is("the cells of the other site are no matter", 4, x.bestFence(0, -30, 20, 1));
         FrostTubes warm = Looks.threeLayers();
         Checks.is("with snow that melts late more stay frozen", 0, warm.bestFence(0, 10, 4, 2));
+        FrostTubes last = Grounds.freeze(Grounds.bare(1), Grounds.COLD_TO[28] + 6);
+        Checks.is("300 / 11 freeze the last cell, too, 300 / 12 don't", 1, last.bestFence(0, -30, 1, 1));
     }
 
     private static void leastFence() {
@@ -260,6 +265,9 @@ public final class ForesightEdgesTest {
         Checks.is("4 to 20 are as good", 4, x.bestFence(0, -30, 20, 1));
         Checks.is("all are as good", 0, x.bestFence(0, 0, 30, 60));
         Checks.is("all with nothing frozen", 0, x.bestFence(0, 30, 0, 60));
+        FrostTubes below = Grounds.bare(1);
+        below.set(0, 2);
+        Checks.is("all begin on the present day", 0, below.bestFence(0, -4, 0, 1));
         x.days(0, 1, 1);
         Checks.is("no more is caught than falls, 50 / 13: 1 is as good as 20", 1, x.bestFence(0, -5, 1, 1));
     }

@@ -473,6 +473,10 @@ public final class ReadingEdgesTest {
         late.days(-4, 0, 1);
         Checks.is("the older one is at the later site", 100, late.oldest(0));
         Checks.is("then that of the first site", 0, late.oldest(1));
+        FrostTubes last = Grounds.onDay(9998);
+        last.days(-9, 0, 1);
+        Checks.is("since day 9999", 0, last.oldest(0));
+        Checks.is("since day 9999, too", 1, last.oldest(1));
     }
 
     private static void sameDay() {

@@ -110,6 +110,7 @@ public final class ScriptEdgesTest {
         runs(FrostTubes.NONE, x, 2, 224001_600041L);
         runs(FrostTubes.NONE, x, 2, 203009_800000L);
         runs(FrostTubes.NONE, x, 2, 203008_600041L);
+        runs(FrostTubes.NONE, Grounds.bare(1), 3, 200009_104001_600001L);
     }
 
     private static void fence() {

@@ -85,6 +85,17 @@ public final class SlotEdgesTest {
         y.append('w');
         y.restore(1);
         Checks.is("not the text", 19, y.clearText());
+        FrostTubes z = Grounds.bare(2);
+        z.tube(0, 3);
+        z.pipe(0, 7);
+        String before = Looks.state(z);
+        z.save(0);
+        z.undo();
+        z.undo();
+        z.tube(1, 5);
+        z.pipe(1, 9);
+        z.restore(0);
+        Checks.same("its tubes and pipes instead of others", before, Looks.state(z));
     }
 
     private static void forgets() {
