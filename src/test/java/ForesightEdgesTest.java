@@ -100,7 +100,7 @@ public final class ForesightEdgesTest {
         x.fence(0, 20);
         x.days(0, 2, 1);
         Checks.is("4 of snow melt on two days, then three of 1", 5, x.goneIn(0, 1));
-        Checks.is("1 / 2 is 0: 4 of snow and 3 of warmth on two days", 2, x.goneIn(0, 3));
+        Checks.is("4 of snow leave 1 of 3, and then 3 more", 2, x.goneIn(0, 3));
     }
 
     private static void goneNow() {
@@ -335,7 +335,8 @@ public final class ForesightEdgesTest {
     }
 
     private static void heavePipe() {
-        Checks.is("the last pipe", 0, Grounds.full().heaveIn(0, 0, 1));
+        FrostTubes full = Grounds.full();
+        Checks.is("the last pipe", full.pipeOf(7, 2), full.heaveIn(7, 0, 1));
         for (int p : new int[] {2, -1, FAR[0], FAR[1]}) {
             Checks.refusesAndChangesNothing("pipe " + p, Checks.INDEX, Grounds::half, y -> y.heaveIn(p, 0, 1));
             Checks.refuses("before bad days", Checks.INDEX, () -> Grounds.half().heaveIn(p, 31, 61));
