@@ -3,19 +3,22 @@ public final class ActionEdgesTest {
     private static final int[] FAR = {Integer.MIN_VALUE, Integer.MAX_VALUE};
 
     public static void main(String[] args) {
-        Checks.sentence("SETTINGS", "0: the days from one thaw from below to the next one, 0 (never) to 30, at first 5",
-                () -> settingIs(0, 5, 0, 30));
+        Checks.sentence("SETTINGS", "0: the days from one thaw from below to the next one, 0 (never) to 30, at "
+                + "first 5", () -> settingIs(0, 5, 0, 30));
         Checks.sentence("SETTINGS", "1: how much snow a degree melts, 1 to 9, at first 2", () -> settingIs(1, 2, 1, 9));
-        Checks.sentence("SETTINGS", "2: by how much a pipe is heaved, 0 to 50, at first 10", () -> settingIs(2, 10, 0, 50));
-        Checks.sentence("ACTIONS AND UNDO", "The methods in the section \"actions\" change the state, which consists of everything but the"
-                + " text and the save slots.", ActionEdgesTest::state);
+        Checks.sentence("SETTINGS", "2: by how much a pipe is heaved, 0 to 50, at first 10",
+                () -> settingIs(2, 10, 0, 50));
+        Checks.sentence("ACTIONS AND UNDO", "The methods in the section \"actions\" change the state, which "
+                + "consists of everything but the text and the save slots.", ActionEdgesTest::state);
         Checks.sentence("ACTIONS AND UNDO", "Each call of one of them that does not throw an exception is an action",
                 ActionEdgesTest::eachIsAnAction);
         Checks.sentence("ACTIONS AND UNDO", "also if nothing becomes different", ActionEdgesTest::nothingDifferent);
         Checks.sentence("ACTIONS AND UNDO", "(undo is none)", ActionEdgesTest::undoIsNone);
-        Checks.sentence("ACTIONS AND UNDO", "Before each action, the state is remembered.", ActionEdgesTest::rememberedBefore);
+        Checks.sentence("ACTIONS AND UNDO", "Before each action, the state is remembered.",
+                ActionEdgesTest::rememberedBefore);
         Checks.sentence("ACTIONS AND UNDO", "At most 14 states are remembered", ActionEdgesTest::fourteen);
-        Checks.sentence("ACTIONS AND UNDO", "when one more is remembered, the oldest one is forgotten", ActionEdgesTest::oldestForgotten);
+        Checks.sentence("ACTIONS AND UNDO", "when one more is remembered, the oldest one is forgotten",
+                ActionEdgesTest::oldestForgotten);
         Checks.sentence("ACTIONS AND UNDO", "load and restore are not actions.", ActionEdgesTest::loadAndRestore);
         Checks.sentence("P14", "Adds a site. Returns its number.", ActionEdgesTest::site);
         Checks.sentence("P14", "if there are 4", ActionEdgesTest::fourSites);
@@ -34,7 +37,8 @@ public final class ActionEdgesTest {
         Checks.sentence("P19", "n: 1 to 60: how many", ActionEdgesTest::daysNumber);
         Checks.sentence("P19", "Returns how many cells of all sites are frozen then.", ActionEdgesTest::daysAnswer);
         Checks.sentence("P19", "if the days would be above 9999", ActionEdgesTest::lastDay);
-        Checks.sentence("P20", "Begins a winter: the sum of cold of each site is 0 then.", ActionEdgesTest::sumsAreZero);
+        Checks.sentence("P20", "Begins a winter: the sum of cold of each site is 0 then.",
+                ActionEdgesTest::sumsAreZero);
         Checks.sentence("P20", "Returns the greatest sum of cold that a site had; 0 without sites.",
                 ActionEdgesTest::winterAnswer);
         Checks.sentence("P21", "what: 0 to 2", ActionEdgesTest::setWhat);

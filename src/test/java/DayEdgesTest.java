@@ -7,19 +7,22 @@ public final class DayEdgesTest {
         Checks.sentence("A DAY", "Its snow becomes more by s, and by the lesser one of s and the height of its fence",
                 DayEdgesTest::caughtSnow);
         Checks.sentence("A DAY", "but at most 99", DayEdgesTest::mostSnow);
-        Checks.sentence("A DAY", "t times setting 1 of its snow melts, or all, if there is less", DayEdgesTest::melting);
+        Checks.sentence("A DAY", "t times setting 1 of its snow melts, or all, if there is less",
+                DayEdgesTest::melting);
         Checks.sentence("A DAY", "the warmth of the day is t less m / setting 1", DayEdgesTest::warmthBesideMelting);
         Checks.sentence("A DAY", "but 0 if any snow is left", DayEdgesTest::noWarmthUnderSnow);
         Checks.sentence("A DAY", "This is stored with the warmth that is stored", DayEdgesTest::warmthAddsUp);
         Checks.sentence("A DAY", "and no cold is stored any more", DayEdgesTest::noColdAnyMore);
-        Checks.sentence("A DAY", "If t is below 0: the cold of the day is 10 * -t / (10 + its snow).", DayEdgesTest::coldOfTheDay);
+        Checks.sentence("A DAY", "If t is below 0: the cold of the day is 10 * -t / (10 + its snow).",
+                DayEdgesTest::coldOfTheDay);
         Checks.sentence("A DAY", "This is stored with the cold that is stored, and comes to its sum of cold",
                 DayEdgesTest::coldAddsUp);
         Checks.sentence("A DAY", "and no warmth is stored any more", DayEdgesTest::noWarmthAnyMore);
         Checks.sentence("A DAY", "(If t is 0, neither changes.)", DayEdgesTest::zeroDegrees);
         Checks.sentence("A DAY", "As long as any cell is not frozen", DayEdgesTest::allAreFrozen);
         Checks.sentence("A DAY", "and the cold that is stored is at least 4 + c", DayEdgesTest::coldEnough);
-        Checks.sentence("A DAY", "c being the first cell from the top that is not frozen", DayEdgesTest::firstThatIsNotFrozen);
+        Checks.sentence("A DAY", "c being the first cell from the top that is not frozen",
+                DayEdgesTest::firstThatIsNotFrozen);
         Checks.sentence("A DAY", "Each pipe of the site in this cell is heaved by setting 2.", DayEdgesTest::heaved);
         Checks.sentence("A DAY", "As long as any cell is frozen", DayEdgesTest::noneIsFrozen);
         Checks.sentence("A DAY", "and the warmth that is stored is at least 3 + c", DayEdgesTest::warmEnough);

@@ -20,14 +20,15 @@ public final class ExceptionEdgesTest {
     private static final List<Refused> REFUSED = new ArrayList<>();
 
     public static void main(String[] args) {
-        Checks.sentence("EXCEPTIONS", "IndexOutOfBoundsException means that a site, a cell, a layer, a tube, a pipe or a rank does not"
-                + " exist, or that a save slot is not 0 or 1.", ExceptionEdgesTest::indexes);
+        Checks.sentence("EXCEPTIONS", "IndexOutOfBoundsException means that a site, a cell, a layer, a tube, a pipe "
+                + "or a rank does not exist, or that a save slot is not 0 or 1.", ExceptionEdgesTest::indexes);
         Checks.sentence("EXCEPTIONS", "IllegalArgumentException means that another argument is out of its range.",
                 ExceptionEdgesTest::arguments);
         Checks.sentence("EXCEPTIONS", "IllegalStateException means what the method says.", ExceptionEdgesTest::states);
-        Checks.sentence("EXCEPTIONS", "If several exceptions apply to a call, the one that its description names first is thrown.",
-                ExceptionEdgesTest::several);
-        Checks.sentence("EXCEPTIONS", "A call that throws an exception changes nothing.", ExceptionEdgesTest::changesNothing);
+        Checks.sentence("EXCEPTIONS", "If several exceptions apply to a call, the one that its description names "
+                + "first is thrown.", ExceptionEdgesTest::several);
+        Checks.sentence("EXCEPTIONS", "A call that throws an exception changes nothing.",
+                ExceptionEdgesTest::changesNothing);
         Checks.finish("ExceptionEdgesTest");
     }
 

@@ -5,16 +5,15 @@ public final class ForesightEdgesTest {
     public static void main(String[] args) {
         Checks.sentence("what would be", "these and all following methods up to the save slots change nothing",
                 ForesightEdgesTest::changeNothing);
-        Checks.sentence("what would be", "that the days are at most 9999 matters for runScript() and simulate() alone",
-                ForesightEdgesTest::beyondTheLastDay);
+        Checks.sentence("what would be", "that the days are at most 9999 matters for runScript() and simulate() "
+                + "alone", ForesightEdgesTest::beyondTheLastDay);
         Checks.sentence("P23", "t: 1 to 30: the temperature of each day to come", ForesightEdgesTest::goneRange);
         Checks.sentence("P23", "without new snow", ForesightEdgesTest::goneWithoutSnow);
         Checks.sentence("P23", "Returns behind how many days no cell of it is frozen, 0 if none is now",
                 ForesightEdgesTest::goneNow);
         Checks.sentence("P23", "up to 400; NONE if some are all the time", ForesightEdgesTest::goneIn400);
         Checks.sentence("P23", "if there is no such site", ForesightEdgesTest::goneSite);
-        Checks.sentence("P24", "t: -30 to -1: the temperature of each day to come",
-                ForesightEdgesTest::reachedRange);
+        Checks.sentence("P24", "t: -30 to -1: the temperature of each day to come", ForesightEdgesTest::reachedRange);
         Checks.sentence("P24", "without new snow", ForesightEdgesTest::reachedWithoutSnow);
         Checks.sentence("P24", "Returns behind how many days the cell is frozen, 0 if it is now",
                 ForesightEdgesTest::reachedNow);

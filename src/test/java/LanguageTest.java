@@ -98,7 +98,8 @@ public final class LanguageTest {
         Deque<Integer> open = new ArrayDeque<>();
         String[] lines = code.split("\n");
         for (int i = 0; i < lines.length; i++) {
-            boolean method = lines[i].matches("(    ){1,2}[\\w \\[\\]]*\\(.*\\{") || lines[i].matches(" {12}throws .*\\{");
+            boolean method = lines[i].matches("(    ){1,2}[\\w \\[\\]]*\\(.*\\{")
+                    || lines[i].matches(" {12}throws .*\\{");
             if (method) {
                 open.push(i);
                 int parameters = lines[i].split("\\)")[0].split(",").length;

@@ -2,10 +2,11 @@
 public final class ReadingEdgesTest {
     public static void main(String[] args) {
         Checks.sentence("P1", "Creates ground without sites.", ReadingEdgesTest::newObject);
-        Checks.sentence("P6", "0: the sites; 1: the tubes; 2: the pipes; 3: the days; 4: the frozen cells of all sites; 5: the"
-                + " layers of all sites", ReadingEdgesTest::aboutCounts);
+        Checks.sentence("P6", "0: the sites; 1: the tubes; 2: the pipes; 3: the days; 4: the frozen cells of all "
+                + "sites; 5: the layers of all sites", ReadingEdgesTest::aboutCounts);
         Checks.sentence("P6", "6: the winters begun so far by winter()", ReadingEdgesTest::winters);
-        Checks.sentence("P6", "7: the greatest sum of cold of a site at winter() so far", ReadingEdgesTest::greatestSum);
+        Checks.sentence("P6", "7: the greatest sum of cold of a site at winter() so far",
+                ReadingEdgesTest::greatestSum);
         Checks.sentence("P6", "8: the heaves of all pipes together", ReadingEdgesTest::heavesTogether);
         Checks.sentence("P6", "9 to 11: the settings 0 to 2", ReadingEdgesTest::settings);
         Checks.sentence("P6", "if what is not 0 to 11", ReadingEdgesTest::aboutRange);
@@ -13,8 +14,8 @@ public final class ReadingEdgesTest {
         Checks.sentence("P7", "7: its lowest frozen cell, NONE if there is none", ReadingEdgesTest::lowestOfSite);
         Checks.sentence("P7", "8: 1 if the cell 0 is frozen, otherwise 0", ReadingEdgesTest::cellZero);
         Checks.sentence("P7", "if what is not 0 to 8", ReadingEdgesTest::siteRange);
-        Checks.sentence("P8", "Returns the number of the day (the days then) on which it froze last; NONE if it is not frozen.",
-                ReadingEdgesTest::since);
+        Checks.sentence("P8", "Returns the number of the day (the days then) on which it froze last; NONE if it is "
+                + "not frozen.", ReadingEdgesTest::since);
         Checks.sentence("P8", "if there is no such site or cell", ReadingEdgesTest::sinceRange);
         Checks.sentence("P9", "0: its first cell; 1: its cells, how many", ReadingEdgesTest::layerCells);
         Checks.sentence("P9", "2: the cells of the gap below it, 0 if it is the last one", ReadingEdgesTest::gapBelow);
@@ -23,7 +24,8 @@ public final class ReadingEdgesTest {
         Checks.sentence("P9", "if what is not 0 to 3", ReadingEdgesTest::layerWhat);
         Checks.sentence("P10", "3: the layers that it shows, how many (one that goes on below its end counts)",
                 ReadingEdgesTest::shownLayers);
-        Checks.sentence("P10", "4: the lowest frozen cell that it shows, NONE if there is none", ReadingEdgesTest::lowestShown);
+        Checks.sentence("P10", "4: the lowest frozen cell that it shows, NONE if there is none",
+                ReadingEdgesTest::lowestShown);
         Checks.sentence("P10", "5: 1 if frost is below its end, otherwise 0", ReadingEdgesTest::belowItsEnd);
         Checks.sentence("P10", "if there is no such tube", ReadingEdgesTest::tubeRange);
         Checks.sentence("P10", "if what is not 0 to 5", ReadingEdgesTest::tubeWhat);
@@ -31,12 +33,13 @@ public final class ReadingEdgesTest {
         Checks.sentence("P11", "4: how often it was heaved so far (also by 0)", ReadingEdgesTest::howOften);
         Checks.sentence("P11", "if there is no such pipe", ReadingEdgesTest::pipeRange);
         Checks.sentence("P11", "if what is not 0 to 4", ReadingEdgesTest::pipeWhat);
-        Checks.sentence("P12", "each one beginning a layer, making one longer, or joining two", ReadingEdgesTest::bothWays);
+        Checks.sentence("P12", "each one beginning a layer, making one longer, or joining two",
+                ReadingEdgesTest::bothWays);
         Checks.sentence("P12", "if way is neither 0 nor 1", ReadingEdgesTest::wayRange);
         Checks.sentence("P13", "from 0: of all frozen cells of all sites the one that is frozen longest, and so on",
                 ReadingEdgesTest::frozenLongest);
-        Checks.sentence("P13", "of several since the same day first that of the lowest site, of one site the highest one (with"
-                + " the lowest number)", ReadingEdgesTest::sameDay);
+        Checks.sentence("P13", "of several since the same day first that of the lowest site, of one site the "
+                + "highest one (with the lowest number)", ReadingEdgesTest::sameDay);
         Checks.sentence("P13", "Returns 100 * its site and the cell, together.", ReadingEdgesTest::together);
         Checks.sentence("P13", "if there are not so many", ReadingEdgesTest::notSoMany);
         Checks.finish("ReadingEdgesTest");

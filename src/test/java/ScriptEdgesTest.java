@@ -3,21 +3,24 @@ public final class ScriptEdgesTest {
     public static void main(String[] args) {
         Checks.sentence("P28", "Runs a script on a copy of the state.", ScriptEdgesTest::onACopy);
         Checks.sentence("P28", "A script has 1 to 3 commands", ScriptEdgesTest::oneToThree);
-        Checks.sentence("P28", "the first command is the highest group of the number (with zeros before it, if it has fewer"
-                + " digits)", ScriptEdgesTest::highestFirst);
+        Checks.sentence("P28", "the first command is the highest group of the number (with zeros before it, if it "
+                + "has fewer digits)", ScriptEdgesTest::highestFirst);
         Checks.sentence("P28", "1 t t s s n: days(-tt, ss, n).", ScriptEdgesTest::coldDays);
         Checks.sentence("P28", "2 t t 0 0 n: days(tt, 0, n).", ScriptEdgesTest::warmDays);
         Checks.sentence("P28", "3 s 0 h h 0: fence(s, hh).", ScriptEdgesTest::fence);
         Checks.sentence("P28", "4 s 0 0 0 0: shovel(s).", ScriptEdgesTest::shovel);
         Checks.sentence("P28", "5 w 0 v v 0: set(w, vv).", ScriptEdgesTest::set);
-        Checks.sentence("P28", "6 s 0 c c b: succeeds if the cell cc of the site s is frozen and b is 1, or is not and b is 0.",
-                ScriptEdgesTest::cell);
-        Checks.sentence("P28", "7 s 0 0 n n: succeeds if the site s has at least nn frozen cells.", ScriptEdgesTest::atLeast);
+        Checks.sentence("P28", "6 s 0 c c b: succeeds if the cell cc of the site s is frozen and b is 1, or is not "
+                + "and b is 0.", ScriptEdgesTest::cell);
+        Checks.sentence("P28", "7 s 0 0 n n: succeeds if the site s has at least nn frozen cells.",
+                ScriptEdgesTest::atLeast);
         Checks.sentence("P28", "8 s 0 0 0 n: succeeds if it has n layers.", ScriptEdgesTest::layers);
-        Checks.sentence("P28", "9 p 0 h h h: succeeds if the heave of the pipe p is at least hhh.", ScriptEdgesTest::heave);
+        Checks.sentence("P28", "9 p 0 h h h: succeeds if the heave of the pipe p is at least hhh.",
+                ScriptEdgesTest::heave);
         Checks.sentence("P28", "The commands 1 to 5 fail if the method would throw an exception",
                 ScriptEdgesTest::wouldThrow);
-        Checks.sentence("P28", "commands with sites, cells or pipes that do not exist fail", ScriptEdgesTest::doNotExist);
+        Checks.sentence("P28", "commands with sites, cells or pipes that do not exist fail",
+                ScriptEdgesTest::doNotExist);
         Checks.sentence("P28", "and so does any other group", ScriptEdgesTest::otherGroups);
         Checks.sentence("P28", "(also one with another digit where a 0 is written, or a b above 1)",
                 ScriptEdgesTest::anotherDigit);

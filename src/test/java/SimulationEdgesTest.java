@@ -17,8 +17,8 @@ public final class SimulationEdgesTest {
         Checks.sentence("P29", "Otherwise: days(q % 16, 0, 1 + q / 16 % 4).", SimulationEdgesTest::warmDays);
         Checks.sentence("P29", "What would throw an exception is left out.", SimulationEdgesTest::leftOut);
         Checks.sentence("P29", "number of turns, 1 to 60", SimulationEdgesTest::turns);
-        Checks.sentence("P29", "Returns 10000 * (the layers of all sites at the end) + 10 * (the frozen cells of all sites at"
-                + " the end) + (the sites at the end).", SimulationEdgesTest::answers);
+        Checks.sentence("P29", "Returns 10000 * (the layers of all sites at the end) + 10 * (the frozen cells of "
+                + "all sites at the end) + (the sites at the end).", SimulationEdgesTest::answers);
         Checks.sentence("P29", "if m is out of range", SimulationEdgesTest::refused);
         Checks.finish("SimulationEdgesTest");
     }

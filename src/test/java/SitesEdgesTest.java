@@ -3,18 +3,22 @@ public final class SitesEdgesTest {
     public static void main(String[] args) {
         Checks.sentence("Terms", "All divisions are rounded down.", SitesEdgesTest::roundedDown);
         Checks.sentence("SITES", "There are at most 4 sites, numbered from 0.", SitesEdgesTest::fourSites);
-        Checks.sentence("SITES", "A site has 30 cells of ground, numbered from 0 at the top", SitesEdgesTest::thirtyCells);
+        Checks.sentence("SITES", "A site has 30 cells of ground, numbered from 0 at the top",
+                SitesEdgesTest::thirtyCells);
         Checks.sentence("SITES", "each frozen or not (at first none is)", SitesEdgesTest::noneFrozenAtFirst);
         Checks.sentence("SITES", "snow of 0 to 99, at first 0", SitesEdgesTest::snow);
         Checks.sentence("SITES", "a fence of the height 0 to 20, at first 0", SitesEdgesTest::fence);
         Checks.sentence("SITES", "cold and warmth that are stored, at first 0; and a sum of cold, at first 0",
                 SitesEdgesTest::nothingStoredAtFirst);
-        Checks.sentence("SITES", "A layer of a site is a row of frozen cells, one below the other, as long as it can be",
-                SitesEdgesTest::layersAreLong);
+        Checks.sentence("SITES", "A layer of a site is a row of frozen cells, one below the other, as long as it "
+                + "can be", SitesEdgesTest::layersAreLong);
         Checks.sentence("SITES", "layers are numbered from 0, from the top", SitesEdgesTest::layersFromTheTop);
-        Checks.sentence("SITES", "A gap is a row of cells that are not frozen between two layers.", SitesEdgesTest::gaps);
-        Checks.sentence("SITES", "So there is one gap less than layers, or none of both.", SitesEdgesTest::gapsAndLayers);
-        Checks.sentence("SITES", "There are at most 8 tubes, numbered from 0, each at a site", SitesEdgesTest::eightTubes);
+        Checks.sentence("SITES", "A gap is a row of cells that are not frozen between two layers.",
+                SitesEdgesTest::gaps);
+        Checks.sentence("SITES", "So there is one gap less than layers, or none of both.",
+                SitesEdgesTest::gapsAndLayers);
+        Checks.sentence("SITES", "There are at most 8 tubes, numbered from 0, each at a site",
+                SitesEdgesTest::eightTubes);
         Checks.sentence("SITES", "with a length of 1 to 30: it shows the cells 0 to its length less 1",
                 SitesEdgesTest::whatATubeShows);
         Checks.sentence("SITES", "There are at most 8 pipes, numbered from 0, each at a site, in a cell",

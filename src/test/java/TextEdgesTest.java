@@ -27,16 +27,17 @@ public final class TextEdgesTest {
         Checks.sentence("TEXT", "Commands that would throw an exception are left out.", TextEdgesTest::leftOut);
         Checks.sentence("TEXT", "There are no blanks.", TextEdgesTest::blanks);
         Checks.sentence("TEXT", "The text is read from left to right.", TextEdgesTest::leftToRight);
-        Checks.sentence("TEXT", "The error position is the index of the first character that these rules do not allow at its"
-                + " place", TextEdgesTest::firstError);
-        Checks.sentence("TEXT", "a digit is not allowed if no number that is allowed begins with it and those before it",
-                TextEdgesTest::digits);
+        Checks.sentence("TEXT", "The error position is the index of the first character that these rules do not "
+                + "allow at its place", TextEdgesTest::firstError);
+        Checks.sentence("TEXT", "a digit is not allowed if no number that is allowed begins with it and those "
+                + "before it", TextEdgesTest::digits);
         Checks.sentence("TEXT", "if the text ends too soon, it is the length of the text", TextEdgesTest::endsTooSoon);
         Checks.sentence("P2", "character code, 0 to 255", TextEdgesTest::codes);
         Checks.sentence("P2", "Returns the new length of the text.", TextEdgesTest::lengths);
         Checks.sentence("P2", "if the text already has 120 characters", TextEdgesTest::full);
         Checks.sentence("P3", "Returns the previous length of the text.", TextEdgesTest::cleared);
-        Checks.sentence("P4", "Returns the error position of the text; NONE if it is a winter.", TextEdgesTest::winters);
+        Checks.sentence("P4", "Returns the error position of the text; NONE if it is a winter.",
+                TextEdgesTest::winters);
         Checks.sentence("P5", "Makes everything as in a new object, and then does the commands of the text.",
                 TextEdgesTest::asNew);
         Checks.sentence("P5", "Behind it no state is remembered, and both save slots are empty.",
